@@ -368,18 +368,20 @@ public final class PatternGreeter {
             }
         }
 
-        /** Keys are told as bits 2 * party + which, what was done as bits of the tokens. */
+        /**
+         * Keys are told as bits 2 * party + which, what was done as bits of the tokens. Whether there is a
+         * key need not be known: without an agreement or psk the rules of sealing can't be broken.
+         */
         int brokenRule() {
             int have = knownKeys[0] | knownKeys[1] << 2;
             int sent = 0;
             int done = 0;
-            boolean keyed = false;
             for (int m = 0; m < messages; m++) {
                 int sender = m & 1;
                 for (int i = 0; i < counts[m]; i++) {
                     int token = tokenOf(m, i);
                     int broken = token <= S
-                        ? ruleOfSending(sender, token, have, sent, done, keyed)
+                        ? ruleOfSending(sender, token, have, sent, done)
                         : ruleOfAgreeing(token, have, done);
                     if (broken != 0) {
                         return broken;
@@ -390,9 +392,8 @@ public final class PatternGreeter {
                     } else {
                         done |= 1 << token;
                     }
-                    keyed = keyed || token > S || token == E && psks > 0;
                 }
-                int broken = keyed ? ruleOfSealing(sender, sent, done) : 0;
+                int broken = ruleOfSealing(sender, sent, done);
                 if (broken != 0) {
                     return broken;
                 }
@@ -400,11 +401,11 @@ public final class PatternGreeter {
             return messages == 0 ? -1 : 0;
         }
 
-        private static int ruleOfSending(int sender, int token, int have, int sent, int done, boolean keyed) {
-            if ((have >>> 2 * sender + token & 1) != 0) {
+        private static int ruleOfSending(int sender, int token, int have, int sent, int done) {
+            if (has(have, 2 * sender + token)) {
                 return 1;
             }
-            return token == S && keyed ? ruleOfSealing(sender, sent, done) : 0;
+            return token == S ? ruleOfSealing(sender, sent, done) : 0;
         }
 
         private static int ruleOfAgreeing(int token, int have, int done) {

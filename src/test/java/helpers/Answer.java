@@ -1,0 +1,74 @@
+/** What a call answered, as a text: a number, "nothing", or throws. and the exception's own name. */
+final class Answer {
+    interface Call {
+        long run();
+    }
+
+    private static int wrong = 0;
+    private static int asked = 0;
+
+    final String call;
+    final String text;
+
+    private Answer(String call, String text) {
+        this.call = call;
+        this.text = text;
+    }
+
+    static Answer of(String call, Call made) {
+        try {
+            return new Answer(call, Long.toString(made.run()));
+        } catch (RuntimeException e) {
+            return new Answer(call, "throws." + e.getClass().getSimpleName());
+        }
+    }
+
+    static Answer ofNothing(String call, Runnable made) {
+        Answer answer = of(call, () -> {
+            made.run();
+            return 0;
+        });
+        return new Answer(call, answer.text.equals("0") ? "nothing" : answer.text);
+    }
+
+    static void due(String what, String got, String want) {
+        asked++;
+        if (!got.equals(want)) {
+            wrong++;
+            if (wrong <= 50) {
+                System.out.println(what + " answered " + got + ", due is " + want);
+            }
+        }
+    }
+
+    Answer is(long want) {
+        due(call, text, Long.toString(want));
+        return this;
+    }
+
+    Answer isNothing() {
+        due(call, text, "nothing");
+        return this;
+    }
+
+    Answer refusesArgument() {
+        due(call, text, "throws.IllegalArgumentException");
+        return this;
+    }
+
+    Answer refusesState() {
+        due(call, text, "throws.IllegalStateException");
+        return this;
+    }
+
+    Answer refusesElement() {
+        due(call, text, "throws.NoSuchElementException");
+        return this;
+    }
+
+    /** Every test's main ends with it. */
+    static void end() {
+        System.out.println(wrong + " wrong of " + asked + " answers");
+        System.exit(wrong == 0 && asked > 0 ? 0 : 1);
+    }
+}
