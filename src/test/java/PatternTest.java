@@ -2,10 +2,6 @@
 public final class PatternTest {
     public static void main(String[] args) {
         clearing();
-        knowing();
-        saying();
-        psks();
-        closing();
         ruleOne();
         ruleTwo();
         ruleThree();
@@ -61,90 +57,6 @@ public final class PatternTest {
         d.write(0).is(48);
         d.seeSome(0);
         d.deliver(1).is(0);
-    }
-
-    private static void knowing() {
-        Both d = new Both("known");
-        for (int bad : new int[] {-1, 2, Integer.MIN_VALUE, Integer.MAX_VALUE}) {
-            d.known(bad, 0).refusesArgument();
-            d.known(0, bad).refusesArgument();
-        }
-        d.setPattern("ee");
-        d.rule().is(2);
-        d.known(0, 0).isNothing();
-        d.rule().is(2);
-        d.known(1, 1).isNothing();
-        d.rule().is(2);
-        d.known(1, 0).isNothing();
-        d.known(1, 0).isNothing();
-        d.rule().is(0);
-        d.begin(0).isNothing();
-        d.known(0, 1).refusesState();
-        d.known(2, 1).refusesArgument();
-        d.known(1, 2).refusesArgument();
-        d.seeSome(0);
-        d.seeSome(1);
-        d.clear();
-        d.setPattern("ee");
-        d.rule().is(2);
-    }
-
-    private static void saying() {
-        Both d = new Both("say");
-        for (int bad : new int[] {-1, 7, Integer.MIN_VALUE, Integer.MAX_VALUE}) {
-            d.say(bad).refusesArgument();
-        }
-        for (int i = 1; i <= 8; i++) {
-            d.say(i % 6).is(i);
-        }
-        d.say(0).refusesState();
-        d.say(7).refusesArgument();
-        d.next().is(1);
-        for (int m = 2; m <= 8; m++) {
-            d.say(0).is(1);
-            d.next().is(m);
-        }
-        d.say(0).refusesState();
-        d.say(-1).refusesArgument();
-        d.next().refusesState();
-        d.clear();
-        d.setPattern("e / e / s / s / ee / es / se / ss");
-        d.rule().is(0);
-        d.begin(1).isNothing();
-        d.say(0).refusesState();
-        d.say(7).refusesArgument();
-    }
-
-    private static void psks() {
-        Both d = new Both("psks");
-        d.say(6).is(1);
-        d.say(6).is(2);
-        d.next().is(1);
-        d.say(6).is(1);
-        d.next().is(2);
-        d.say(6).is(1);
-        d.say(6).refusesState();
-        d.say(0).is(2);
-        d.next().is(3);
-        d.say(6).refusesState();
-        d.say(1).is(1);
-    }
-
-    private static void closing() {
-        Both d = new Both("next");
-        d.next().refusesState();
-        d.say(0).is(1);
-        d.rule().is(-1);
-        d.begin(0).refusesState();
-        d.next().is(1);
-        d.next().refusesState();
-        d.rule().is(0);
-        d.say(3).is(1);
-        d.rule().is(0);
-        d.begin(0).isNothing();
-        d.next().refusesState();
-        d.write(0).is(32);
-        d.look(0, 0).is(3);
     }
 
     private static void ruleIs(int want, String pattern) {

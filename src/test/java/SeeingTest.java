@@ -1,38 +1,11 @@
 /** Promises 21 and 22: what at and look tell of a party in each of its states. */
 public final class SeeingTest {
-    private static final int[] WRONG = {-1, 2, Integer.MIN_VALUE, Integer.MAX_VALUE};
-
     public static void main(String[] args) {
-        wrongArguments();
         rowsInEachState();
         figures();
         figuresOfPsks();
         bothSeeTheSame();
         Answer.end();
-    }
-
-    private static void wrongArguments() {
-        Both d = new Both("wrong arguments");
-        d.setPattern("e / e ee");
-        d.begin(0);
-        d.write(0);
-        for (int bad : WRONG) {
-            d.at(bad, 0, 0).refusesArgument();
-            d.at(bad, 6, -1).refusesArgument();
-            d.look(bad, 0).refusesArgument();
-        }
-        for (int bad : new int[] {-1, 6, Integer.MIN_VALUE, Integer.MAX_VALUE}) {
-            d.at(0, bad, 0).refusesArgument();
-            d.at(0, bad, -1).refusesArgument();
-        }
-        for (int bad : new int[] {-1, 8, Integer.MIN_VALUE, Integer.MAX_VALUE}) {
-            d.look(1, bad).refusesArgument();
-        }
-        for (int bad : new int[] {-1, 32, Integer.MIN_VALUE, Integer.MAX_VALUE}) {
-            for (int what = 0; what < 6; what++) {
-                d.at(0, what, bad).refusesElement();
-            }
-        }
     }
 
     /** A digit for each of 0 to 5: how many of the bytes 0, 31 and 32 are to be seen. */

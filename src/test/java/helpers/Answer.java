@@ -9,10 +9,17 @@ final class Answer {
 
     final String call;
     final String text;
+    private Runnable whenRefused = () -> { };
 
     private Answer(String call, String text) {
         this.call = call;
         this.text = text;
+    }
+
+    /** What is looked at besides when a test says that the call is refused. */
+    Answer whenRefused(Runnable look) {
+        whenRefused = look;
+        return this;
     }
 
     static Answer of(String call, Call made) {
@@ -41,6 +48,10 @@ final class Answer {
         }
     }
 
+    static int asked() {
+        return asked;
+    }
+
     Answer is(long want) {
         due(call, text, Long.toString(want));
         return this;
@@ -51,19 +62,22 @@ final class Answer {
         return this;
     }
 
-    Answer refusesArgument() {
-        due(call, text, "throws.IllegalArgumentException");
+    private Answer refuses(String exception) {
+        due(call, text, "throws." + exception);
+        whenRefused.run();
         return this;
+    }
+
+    Answer refusesArgument() {
+        return refuses("IllegalArgumentException");
     }
 
     Answer refusesState() {
-        due(call, text, "throws.IllegalStateException");
-        return this;
+        return refuses("IllegalStateException");
     }
 
     Answer refusesElement() {
-        due(call, text, "throws.NoSuchElementException");
-        return this;
+        return refuses("NoSuchElementException");
     }
 
     /** Every test's main ends with it. */

@@ -68,6 +68,15 @@ final class Model {
         return row;
     }
 
+    /** 1, 8, 15, .. */
+    static byte[] counting(int size) {
+        byte[] row = new byte[size];
+        for (int i = 0; i < size; i++) {
+            row[i] = (byte) (7 * i + 1);
+        }
+        return row;
+    }
+
     static byte[] hash(int which, byte[] row) {
         return which == 0 ? digest(row) : stir(row);
     }
