@@ -248,6 +248,11 @@ public final class PatternEdgesTest {
         d.say(0).is(1);
         d.clear();
         d.next().refusesState();
+        d.setPattern("e psk psk");
+        d.next().refusesState();
+        d.say(6).is(1);
+        d.say(6).is(2);
+        d.say(6).refusesState();
     }
 
     private static void noMessage(Both d) {
@@ -272,9 +277,10 @@ public final class PatternEdgesTest {
         }
         d.begin(0).isNothing();
         d.rule().is(0);
-        d.write(0).is(64);
+        d.fill(960);
+        d.write(0).is(1024);
         d.look(0, 0).is(3);
-        d.deliver(1).is(0);
+        d.deliver(1).is(960);
     }
 
     private static void noRuleBroken(Both d) {

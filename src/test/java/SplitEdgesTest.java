@@ -403,11 +403,12 @@ public final class SplitEdgesTest {
     private static void notSplit(Both d) {
         refuseNumbers(d, 0);
         refuseNumbers(d, 1);
-        d.greet(TWO, 0, 0);
+        d.greet("s1 : e es / e ee", 0, 0);
         refuseNumbers(d, 0);
         refuseNumbers(d, 1);
         d.write(0);
         d.deliver(1);
+        d.look(0, 5).is(1);
         refuseNumbers(d, 0);
         refuseNumbers(d, 1);
         d.write(1);

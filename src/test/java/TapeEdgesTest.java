@@ -306,6 +306,7 @@ public final class TapeEdgesTest {
     private static void sizesOfKeys(Both d) {
         for (int size : new int[] {0, 1, 31, 33, 64, 1024}) {
             Both wrong = d.another();
+            wrong.setKeys();
             wrong.fill(size);
             for (int party = 0; party < 2; party++) {
                 wrong.key(party, 0).refusesArgument();
@@ -330,6 +331,7 @@ public final class TapeEdgesTest {
             }
             for (int size : new int[] {65, 66, 1024}) {
                 Both wrong = d.another();
+                wrong.setKey(party, 2, Model.bytes(5));
                 wrong.fill(size);
                 wrong.key(party, 2).refusesArgument();
                 wrong.wipe().is(size);
@@ -422,6 +424,8 @@ public final class TapeEdgesTest {
     private static void sizesOfSecrets(Both d) {
         for (int size : new int[] {0, 1, 31, 33, 64, 1024}) {
             Both wrong = d.another();
+            wrong.fill(32);
+            wrong.secret(0).isNothing();
             wrong.fill(size);
             wrong.secret(0).refusesArgument();
             wrong.secret(3).refusesArgument();

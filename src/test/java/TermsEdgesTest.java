@@ -53,6 +53,12 @@ public final class TermsEdgesTest {
             "b5afa6c3e01240a4be8662400e1353f67317e0c65977ab2ef7f8827cef962fd0"},
     };
 
+    /** How many agreements there are at most, but for a few: on the curve, and on its twist. */
+    private static final BigInteger CURVE =
+        BigInteger.TWO.pow(252).add(new BigInteger("27742317777372353535851937790883648493"));
+    private static final BigInteger TWIST =
+        BigInteger.TWO.pow(253).subtract(new BigInteger("55484635554744707071703875581767296995"));
+
     private static final String NOUGHT = "00".repeat(32);
 
     public static void main(String[] args) {
@@ -65,6 +71,7 @@ public final class TermsEdgesTest {
         Edge.of("Terms", "of which the bits 0, 1, 2 and 255 become 0, bit 254 becomes 1", TermsEdgesTest::setBits);
         Edge.of("Terms", "bit 255 taken as 0", TermsEdgesTest::highestBit);
         Edge.of("Terms", "lowest first, bit 255 taken as 0; modulo q", TermsEdgesTest::aboveQ);
+        Edge.of("Terms", "numbers modulo q = 2^255 - 19", TermsEdgesTest::agreementsNearQ);
         Edge.of("Terms", "The agreement is x2 * z2^(q - 2)", TermsEdgesTest::agreementsOfNought);
         Edge.of("Terms", "32 bytes, lowest first. The PUBLIC key of k: the agreement with 9.", TermsEdgesTest::publicKey);
         Edge.of("Promise 19", "it has not 64 bytes", TermsEdgesTest::sizesForAgree);
@@ -159,6 +166,56 @@ public final class TermsEdgesTest {
         }
         Both below = new Both(d.name + ", q - 2");
         agreement(below, someKey(), Model.Q.subtract(BigInteger.TWO));
+    }
+
+    /**
+     * Agreements on the least numbers, to which q could be added below 2^255, and on the greatest ones below q.
+     * Not every number can be agreed on; those that can are found by the model.
+     */
+    private static void agreementsNearQ(Both d) {
+        int small = 0;
+        int great = 0;
+        for (int i = 2; i < 40; i++) {
+            small += agreedOn(d, BigInteger.valueOf(i)) ? 1 : 0;
+            great += agreedOn(d, Model.Q.subtract(BigInteger.valueOf(i))) ? 1 : 0;
+        }
+        Answer.due(d.name + ": whether some were found", Boolean.toString(small > 3 && great > 3), "true");
+    }
+
+    /** The public key comes from the number by a private key that the other one undoes. */
+    private static boolean agreedOn(Both d, BigInteger wanted) {
+        for (BigInteger[] pair : new BigInteger[][] {keyAndUndoing(CURVE), keyAndUndoing(TWIST)}) {
+            byte[] key = Model.row(pair[0]);
+            byte[] open = Model.agree(Model.row(pair[1]), Model.row(wanted));
+            if (Model.number(Model.agree(key, open)).equals(wanted)) {
+                Both one = new Both(d.name + ", agreement on " + wanted);
+                one.feedAll(key);
+                one.feedAll(open);
+                one.agree().isNothing();
+                byte[] want = Model.row(wanted);
+                for (int k = 0; k < 32; k++) {
+                    one.result(k).is(want[k] & 255);
+                }
+                return true;
+            }
+        }
+        return false;
+    }
+
+    /** Two numbers that have the bits of private keys, and whose product is 1 modulo the order. */
+    private static BigInteger[] keyAndUndoing(BigInteger order) {
+        for (int i = 0; i < 100; i++) {
+            BigInteger key = Model.number(Model.digest(Model.bytes(i)));
+            key = key.clearBit(0).clearBit(1).clearBit(2).clearBit(255).setBit(254);
+            BigInteger back = key.modInverse(order);
+            while (back.bitLength() < 255 || back.bitLength() == 255 && back.getLowestSetBit() < 3) {
+                back = back.add(order);
+            }
+            if (back.bitLength() == 255) {
+                return new BigInteger[] {key, back};
+            }
+        }
+        throw new AssertionError("no such keys were found");
     }
 
     /** Public keys with which every private key comes to z2 = 0, whose power is 0. */

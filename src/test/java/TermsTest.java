@@ -17,7 +17,6 @@ public final class TermsTest {
         hashes();
         hashesOfEverySize();
         agreements();
-        agreementsOnNine();
         repeatedAgreements();
         Answer.end();
     }
@@ -87,34 +86,6 @@ public final class TermsTest {
             d.wipe().is(0);
             d.resultIs(line[2]);
         }
-    }
-
-    /** Agreements on 9 itself: it is so small that 9 + q, too, is under 2^255, but it is 9 that is due. */
-    private static void agreementsOnNine() {
-        BigInteger order = BigInteger.TWO.pow(252).add(new BigInteger("27742317777372353535851937790883648493"));
-        int found = 0;
-        for (int i = 0; i < 20; i++) {
-            BigInteger k = Model.number(Model.digest(Model.bytes(i)));
-            k = k.clearBit(0).clearBit(1).clearBit(2).clearBit(255).setBit(254);
-            // A private key whose public key, taken k times, is 9 again.
-            BigInteger back = k.modInverse(order);
-            while (back.bitLength() < 255 || back.bitLength() == 255 && back.getLowestSetBit() < 3) {
-                back = back.add(order);
-            }
-            if (back.bitLength() > 255) {
-                continue;
-            }
-            found++;
-            Both d = new Both("agreement on 9, the " + found + ".");
-            d.feedAll(Model.row(k));
-            d.feedAll(Model.publicKey(Model.row(back)));
-            d.agree().isNothing();
-            d.result(0).is(9);
-            for (int b = 1; b < 32; b++) {
-                d.result(b).is(0);
-            }
-        }
-        Answer.due("whether an agreement on 9 was found", Boolean.toString(found > 0), "true");
     }
 
     /** Each private key is the agreement before, its public key the private key before: a thousand times. */

@@ -15,15 +15,15 @@ final class Edge {
         Answer.due(name + ": whether it asks anything", Boolean.toString(Answer.asked() > before), "true");
     }
 
-    /** Begun, amidst the messages, split, and with a party that has failed. */
+    /** Begun, amidst the messages with a key and a psk done, split, and with a party that has failed. */
     static void inEachBegunState(Both d, Consumer<Both> test) {
         for (int messages = 0; messages <= 2; messages++) {
             Both begun = d.another();
-            begun.greet("e / e ee", 0, messages);
+            begun.greet("e psk / e ee psk", 0, messages);
             test.accept(begun);
         }
         Both failed = d.another();
-        failed.greet("e / e ee", 0, 0);
+        failed.greet("e psk / e ee psk", 0, 0);
         failed.read(1).is(-1);
         test.accept(failed);
     }

@@ -12,7 +12,8 @@ final class Twin {
     static final int MOST_CALLS = 512;
 
     private static final List<Consumer<Twin>> QUESTIONS = List.of(
-        Twin::askFigures, Twin::askRows, Twin::askTape, Twin::askOpenMessage, Twin::askMessages, Twin::askKeys);
+        Twin::askFigures, twin -> twin.askRows(0), twin -> twin.askRows(1), Twin::askTape,
+        Twin::askOpenMessage, Twin::askNextMessage, Twin::askMessages, Twin::askKeys);
 
     private final PatternGreeter desk = new PatternGreeter();
     private final List<Answer> answers = new ArrayList<>();
@@ -81,14 +82,12 @@ final class Twin {
     }
 
     /** Of OUT and IN the last bytes. */
-    private void askRows() {
-        for (int party = 0; party < 2; party++) {
-            for (int what = 0; what < 2; what++) {
-                askRow(party, what, (int) desk.look(party, 1 + what) - 7, 1, 8);
-            }
-            for (int what = 2; what < 6; what++) {
-                askRow(party, what, 3, 4, 8);
-            }
+    private void askRows(int party) {
+        for (int what = 0; what < 2; what++) {
+            askRow(party, what, (int) desk.look(party, 1 + what) - 7, 1, 8);
+        }
+        for (int what = 2; what < 6; what++) {
+            askRow(party, what, 0, 1, 32);
         }
     }
 
@@ -105,9 +104,17 @@ final class Twin {
         ask("rule()", PatternGreeter::rule);
     }
 
+    private void askNextMessage() {
+        ask("next()", PatternGreeter::next);
+        ask("rule()", PatternGreeter::rule);
+        askOpenMessage();
+    }
+
     /** The pattern shows in the h that both begin with, all bytes of an OUT in the h of its reader. */
     private void askMessages() {
-        order("begin(1)", d -> d.begin(1));
+        if (desk.look(0, 0) == 0) {
+            order("begin(1)", d -> d.begin(1));
+        }
         askWriting(1);
         for (int i = 0; i < 9; i++) {
             askWriting(i % 2);
