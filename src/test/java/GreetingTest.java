@@ -91,7 +91,7 @@ public final class GreetingTest {
     private static void exchange() {
         for (int hash = 0; hash < 2; hash++) {
             Both d = begun(THREE, hash);
-            String[] payloads = {"one", "", "a third one that is longer than one block of sixty-four bytes, as is said"};
+            String[] payloads = {"one", "", "a third one, longer than a block of sixty-four bytes, as is said here"};
             for (int m = 0; m < 3; m++) {
                 byte[] payload = payloads[m].getBytes(java.nio.charset.StandardCharsets.US_ASCII);
                 d.feedAll(payload);

@@ -1,6 +1,6 @@
 import java.util.Arrays;
 
-/** The boundary cases of promises 11 to 15 while a pattern is worked off, and of the terms that tell of its messages. */
+/** The boundary cases of promises 11 to 15 and of the terms that tell of messages, until both parties are split. */
 public final class MessageEdgesTest {
     private static final String THREE = "e / e ee s es / s se";
 
@@ -27,7 +27,7 @@ public final class MessageEdgesTest {
         Edge.of("Promise 14", "The same with the other party's OUT.", MessageEdgesTest::emptyOut);
         Edge.of("Promise 15", "there is no such party", MessageEdgesTest::alterNoParty);
         Edge.of("Promise 15", "there is no such byte", MessageEdgesTest::alterNoByte);
-        Edge.of("Promise 15", "Byte i of a party's OUT becomes itself ^ mask: what it is then.", MessageEdgesTest::masks);
+        Edge.of("Promise 15", "becomes itself ^ mask: what it is then", MessageEdgesTest::masks);
         Edge.of("Terms", "if not, it stays; then h is mixed with what it has become", MessageEdgesTest::withoutKey);
         Edge.of("Terms", "the number n is 0", MessageEdgesTest::numberInPattern);
         Edge.of("Terms", "0 not begun, 1 it writes next, 2 it reads next, 3 split, 4 failed", MessageEdgesTest::states);

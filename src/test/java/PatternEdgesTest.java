@@ -27,7 +27,7 @@ public final class PatternEdgesTest {
             PatternEdgesTest::whenSealing);
         Edge.of("Terms", "5 (likewise) there was a psk, and the sender has not sent e", PatternEdgesTest::ruleFive);
         Edge.of("Terms", "the first that is broken counts", PatternEdgesTest::firstBroken);
-        Edge.of("Terms", "There is a KEY from the first agreement or psk on, also from the first e on if the pattern has a psk.",
+        Edge.of("Terms", "There is a KEY from the first agreement or psk on, also from the first e on",
             PatternEdgesTest::firstKey);
         Answer.end();
     }

@@ -18,7 +18,8 @@ public final class SeeingEdgesTest {
         Edge.of("Promise 22", "5 the number n (once split: for sending), 6 that for opening (0 before)",
             SeeingEdgesTest::numbers);
         Edge.of("Promise 22", "7 psks done", SeeingEdgesTest::psks);
-        Edge.of("Terms", "4 to 7 of look are 0, and nothing of h, ck and keys is to be seen", SeeingEdgesTest::figuresOfFailed);
+        Edge.of("Terms", "4 to 7 of look are 0, and nothing of h, ck and keys is to be seen",
+            SeeingEdgesTest::figuresOfFailed);
         Answer.end();
     }
 

@@ -22,7 +22,8 @@ public final class TapeEdgesTest {
         Edge.of("Promise 9", "IllegalStateException when it has begun", TapeEdgesTest::keysOnceBegun);
         Edge.of("Terms", "the PRELUDE (at most 64 bytes)", TapeEdgesTest::preludesInH);
         Edge.of("Terms", "private keys E and S (32 bytes, all 0 at first)", TapeEdgesTest::keysAtFirst);
-        Edge.of("Terms", "the SECRETS 0 .. 3 (32 bytes, all 0 at first; both have the same)", TapeEdgesTest::secretsAtFirst);
+        Edge.of("Terms", "the SECRETS 0 .. 3 (32 bytes, all 0 at first; both have the same)",
+            TapeEdgesTest::secretsAtFirst);
         Edge.of("Promise 10", "k is not 0 .. 3", TapeEdgesTest::noSuchSecret);
         Edge.of("Promise 10", "or the tape has not 32 bytes", TapeEdgesTest::sizesOfSecrets);
         Edge.of("Promise 10", "IllegalStateException when it has begun", TapeEdgesTest::secretsOnceBegun);

@@ -73,7 +73,7 @@ public final class TermsEdgesTest {
         Edge.of("Terms", "lowest first, bit 255 taken as 0; modulo q", TermsEdgesTest::aboveQ);
         Edge.of("Terms", "numbers modulo q = 2^255 - 19", TermsEdgesTest::agreementsNearQ);
         Edge.of("Terms", "The agreement is x2 * z2^(q - 2)", TermsEdgesTest::agreementsOfNought);
-        Edge.of("Terms", "32 bytes, lowest first. The PUBLIC key of k: the agreement with 9.", TermsEdgesTest::publicKey);
+        Edge.of("Terms", "The PUBLIC key of k: the agreement with 9.", TermsEdgesTest::publicKey);
         Edge.of("Promise 19", "it has not 64 bytes", TermsEdgesTest::sizesForAgree);
         Edge.of("Promise 20", "k is not 0 .. 31", TermsEdgesTest::noSuchByte);
         Edge.of("Promise 20", "Byte k of the RESULT (0s at first).", TermsEdgesTest::resultAtFirst);
@@ -141,10 +141,12 @@ public final class TermsEdgesTest {
         // All bits 0 and all bits 1.
         BigInteger ones = BigInteger.ONE.shiftLeft(256).subtract(BigInteger.ONE);
         Both ends = d.another();
+        BigInteger least = BigInteger.ONE.shiftLeft(254);
+        BigInteger greatest = BigInteger.ONE.shiftLeft(255).subtract(BigInteger.valueOf(8));
         dueRow(d, "0 and 2^254", agreement(ends, BigInteger.ZERO, BigInteger.valueOf(9)),
-            agreement(ends, BigInteger.ONE.shiftLeft(254), BigInteger.valueOf(9)), true);
+            agreement(ends, least, BigInteger.valueOf(9)), true);
         dueRow(d, "all bits and 2^255 - 8", agreement(ends, ones, BigInteger.valueOf(9)),
-            agreement(ends, BigInteger.ONE.shiftLeft(255).subtract(BigInteger.valueOf(8)), BigInteger.valueOf(9)), true);
+            agreement(ends, greatest, BigInteger.valueOf(9)), true);
     }
 
     private static void highestBit(Both d) {
