@@ -72,6 +72,7 @@ public final class TermsEdgesTest {
         Edge.of("Terms", "bit 255 taken as 0", TermsEdgesTest::highestBit);
         Edge.of("Terms", "lowest first, bit 255 taken as 0; modulo q", TermsEdgesTest::aboveQ);
         Edge.of("Terms", "numbers modulo q = 2^255 - 19", TermsEdgesTest::agreementsNearQ);
+        Edge.of("Terms", "numbers modulo q = 2^255 - 19", TermsEdgesTest::agreementsWithRuns);
         Edge.of("Terms", "The agreement is x2 * z2^(q - 2)", TermsEdgesTest::agreementsOfNought);
         Edge.of("Terms", "The PUBLIC key of k: the agreement with 9.", TermsEdgesTest::publicKey);
         Edge.of("Promise 19", "it has not 64 bytes", TermsEdgesTest::sizesForAgree);
@@ -182,6 +183,21 @@ public final class TermsEdgesTest {
             great += agreedOn(d, Model.Q.subtract(BigInteger.valueOf(i))) ? 1 : 0;
         }
         Answer.due(d.name + ": whether some were found", Boolean.toString(small > 3 && great > 3), "true");
+    }
+
+    /** Agreements on numbers with many 0s or 1s in a row, wherever they stand: there a carry goes far or is lost. */
+    private static void agreementsWithRuns(Both d) {
+        for (int from = 0; from < 220; from += 10) {
+            BigInteger run = BigInteger.TWO.pow(36).subtract(BigInteger.ONE).shiftLeft(from);
+            int zeros = 0;
+            int ones = 0;
+            for (int i = 0; i < 100 && (zeros < 2 || ones < 2); i++) {
+                BigInteger number = Model.number(Model.digest(Model.bytes(from, i))).clearBit(255).clearBit(254);
+                zeros += zeros < 2 && agreedOn(d, number.andNot(run)) ? 1 : 0;
+                ones += ones < 2 && agreedOn(d, number.or(run)) ? 1 : 0;
+            }
+            Answer.due(d.name + ": numbers found with a run at " + from, zeros + " and " + ones, "2 and 2");
+        }
     }
 
     /** The public key comes from the number by a private key that the other one undoes. */
